@@ -119,11 +119,11 @@ public final class BootMaker {
         }
 
         int get(int at) {
-            return has(at) ? (int) (words[at >> 3] >>> ((at & 7) << 3)) & 255 : 0;
+            return at >= 0 && at < length ? (int) (words[at >> 3] >>> ((at & 7) << 3)) & 255 : 0;
         }
 
         void put(int at, int value) {
-            if (has(at)) {
+            if (at >= 0 && at < length) {
                 int shift = (at & 7) << 3;
                 words[at >> 3] = words[at >> 3] & ~(255L << shift) | (value & 255L) << shift;
             }
@@ -392,12 +392,11 @@ public final class BootMaker {
         void lieIn(int firstSector, int sectors) {
             start = firstSector;
             length = sectors;
-            tableSectors = 0;
-            clusters = clustersIn(length, 0);
-            while (tableSectors < length && tableBytes(clusters) > SECTOR * tableSectors) {
+            tableSectors = 1;
+            while (tableSectors < length && tableBytes(clustersIn(length, tableSectors)) > SECTOR * tableSectors) {
                 tableSectors++;
-                clusters = clustersIn(length, tableSectors);
             }
+            clusters = clustersIn(length, tableSectors);
         }
 
         boolean isPossible() {
@@ -655,11 +654,10 @@ public final class BootMaker {
             int at = table + entry * 3 / 2;
             int value = volume.follower(entry);
             if (entry % 2 == 0) {
-                disk.put(at, value);
-                disk.put(at + 1, disk.get(at + 1) & 0xF0 | value >> 8);
+                disk.putLow(at, 2, value);
             } else {
-                disk.put(at, disk.get(at) & 0x0F | value << 4);
-                disk.put(at + 1, value >> 4);
+                // The even entry before it has been written already, and has half of this byte.
+                disk.putLow(at, 2, disk.get(at) | value << 4);
             }
         }
 

@@ -113,6 +113,7 @@ public final class BootTest {
             Check.seal(x, 1);
             due("entries from sector " + place[0], x, 0, (int) place[1]);
         }
+        entriesBehindTheEnd(x);
         // The last 32 sectors, the copy's header among them, hold good entries too if the sums say so.
         for (int i = 0; i < 16; i++) {
             x.poke(128 * 512 + i, BOOT[i]);
@@ -126,6 +127,22 @@ public final class BootTest {
         Check.seal(x, 1);
         // Sealing spoils the header again, for here it lies among its own entries; so there is no good one.
         due("entries that the header lies in", x, 0, 3);
+    }
+
+    /** Sums that would be right if bytes behind the end were 0, or numbers were cut to their low half, are no excuse. */
+    private static void entriesBehindTheEnd(BootMaker x) {
+        long[] places = {129, 160, 200, 1L << 32 | 2, 1L << 62 | 2, Long.MIN_VALUE | 2, -1};
+        for (long place : places) {
+            java.util.zip.CRC32 crc = new java.util.zip.CRC32();
+            for (int i = 0; i < 16384; i++) {
+                crc.update(Math.max(0, x.byteAt((int) place * 512 + i)));
+            }
+            Check.pokeLow(x, 512 + 72, 8, place);
+            Check.pokeLow(x, 512 + 88, 4, crc.getValue());
+            Check.pokeLow(x, 512 + 16, 4, 0);
+            Check.pokeLow(x, 512 + 16, 4, x.sum(512, 92));
+            due("entries from sector " + place + " as if it were there", x, 0, 3);
+        }
     }
 
     private static void entrySpan(BootMaker x, int entry, long first, long last) {
@@ -156,6 +173,12 @@ public final class BootTest {
         }
         entrySpan(x, 127, 40, 41);
         due("the last entry", x, 0, 0);
+        for (int i = 0; i < 128; i++) {
+            x.poke(1024 + 128 * 128 + i, x.byteAt(1024 + 127 * 128 + i));
+        }
+        entrySpan(x, 127, 40, 39);
+        due("one behind the last entry", x, 0, 4);
+        entrySpan(x, 127, 40, 41);
         for (int i = 0; i < 16; i++) {
             x.poke(1024 + 60 * 128 + i, BOOT[i]);
         }
@@ -173,6 +196,7 @@ public final class BootTest {
         spoiled(x, 0, 64, 1, 0, 0);
         spoiled(x, 1, 69, 2, 0, 9);
         spoiled(x, 1, 69, 2, 2, 9);
+        spoiled(x, 1, 69, 2, 257, 9);
         spoiled(x, 1, 81, 2, 2, 0);
         spoiled(x, 1, 81, 2, 160 - 49, 0);
         spoiled(x, 1, 81, 2, 160 - 49 + 1, 9);
@@ -188,6 +212,14 @@ public final class BootTest {
         spoiled(x, 1, 87, 4, 0, 9);
         spoiled(x, 1, 90, 1, x.byteAt(90) ^ 128, 9);
         due("all put back", x, 1, 0);
+        BootMaker y = new BootMaker(160);
+        y.partition(0, 40);
+        y.file(Check.KERNEL, 1500, 5, true);
+        y.file(Check.LOADER, 4000, 3, false);
+        y.write();
+        due("runs of one sector and of several", y, 1, 0);
+        y.poke(Check.cluster(9) + 100, 1);
+        due("a byte of the last run", y, 1, 9);
     }
 
     /** Twenty runs of one sector each, the first so many bytes of which are the loader. */
@@ -265,6 +297,7 @@ public final class BootTest {
         spoiled(x, 0, at + 22, 2, 18, 6);
         spoiled(x, 0, at + 22, 2, 19, 5);
         spoiled(x, 0, at + 22, 2, 65535, 5);
+        spoiled(x, 0, at + 22, 2, 257, 5);
         BootMaker y = new BootMaker(600);
         y.partition(0, 344);
         y.file(Check.KERNEL, 600, 0, false);
@@ -331,6 +364,8 @@ public final class BootTest {
         spoiled(x, 0, first, 2, 1, 7);
         spoiled(x, 0, first, 2, 8, 7);
         spoiled(x, 0, first, 2, 37, 7);
+        spoiled(x, 0, first, 2, 0x107, 7);
+        spoiled(x, 0, first, 2, 0x1007, 7);
         spoiled(x, 0, first, 2, 65535, 7);
         spoiled(x, 0, size, 4, 1536, 0);
         spoiled(x, 0, size, 4, 1537, 7);
@@ -354,6 +389,9 @@ public final class BootTest {
         setEntry(x, 36, 4095);
         setEntry(x, 8, 36);
         due("the last cluster of all", x, 0, 0);
+        setEntry(x, 37, 4095);
+        setEntry(x, 8, 37);
+        due("one behind the last cluster", x, 0, 7);
         setEntry(x, 8, 9);
         x.poke(42 * 512 + 10, 0);
         x.poke(42 * 512 + 12, 0);

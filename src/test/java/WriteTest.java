@@ -15,6 +15,7 @@ public final class WriteTest {
         scatteredWraps();
         scatteredAroundOthers();
         tableSectors();
+        highClusters();
         writtenAnew();
         otherBootPartitions();
         noBootPartition();
@@ -250,6 +251,30 @@ public final class WriteTest {
             Check.dueText("directory of " + one[0], x, (41 + 2 * one[1]) * 512, "A   ");
             Check.dueBytes("file of " + one[0], x, (43 + 2 * one[1]) * 512, 77, 0);
         }
+    }
+
+    private static void highClusters() {
+        // Twelve files of 18 clusters, every other one scattered: the numbers need all twelve bits' places.
+        BootMaker x = new BootMaker(600);
+        x.partition(0, 500);
+        Model model = new Model(600);
+        model.partition(0, 500);
+        for (int i = 0; i < 12; i++) {
+            x.file('A' + i, 9000, i, i % 3 != 1);
+            model.file('A' + i, 9000, i, i % 3 != 1);
+        }
+        Check.due("write()", x.write(), model.write());
+        Check.due("the same disk", Arrays.equals(model.disk, Check.image(x, 600)), true);
+        BootMaker y = new BootMaker(600);
+        y.partition(0, 344);
+        for (int i = 0; i < 12; i++) {
+            y.file('A' + i, 9000, i, false);
+        }
+        Check.due("write()", y.write(), 0);
+        for (int e = 2; e < 2 + 12 * 18; e++) {
+            Check.due("entry " + e, entry(y, 41, e), (e - 1) % 18 == 0 ? 4095 : e + 1);
+        }
+        Check.due("the entry behind them", entry(y, 41, 2 + 12 * 18), 0);
     }
 
     private static void writtenAnew() {
