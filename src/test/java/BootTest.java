@@ -127,6 +127,12 @@ public final class BootTest {
         Check.seal(x, 1);
         // Sealing spoils the header again, for here it lies among its own entries; so there is no good one.
         due("entries that the header lies in", x, 0, 3);
+        BootMaker y = Check.usual();
+        y.poke(512, 0);
+        Check.pokeLow(y, 159 * 512 + 72, 8, 0);
+        Check.seal(y, 159);
+        due("the copy's entries begin with the disk", y, 0, 0);
+        Check.due("the copy is used", y.booted(0), 2);
     }
 
     /** Sums that would be right if bytes behind the end were 0, or numbers were cut to their low half, are no excuse. */
