@@ -287,7 +287,7 @@ final class Model {
 
     int boot(int mode) {
         if (mode < 0 || mode > 1) {
-            return Check.ILLEGAL;
+            return Maker.ILLEGAL;
         }
         booted = new int[] {0, -1, -1, -1};
         memory = new byte[65536];
@@ -412,6 +412,6 @@ final class Model {
     }
 
     int memory(int at) {
-        return at < 0 || at >= 65536 ? Check.NO_SUCH : memory[at] & 255;
+        return at < 0 || at >= 65536 ? Maker.NO_SUCH : memory[at] & 255;
     }
 }
