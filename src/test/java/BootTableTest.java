@@ -192,7 +192,7 @@ public final class BootTableTest {
             for (int i = 0; i < 128 && sector < 159; i++) {
                 x.poke(sector * 512 + i, x.byteAt(1024 + i));
             }
-            dueGood("entries at " + sector, tellEntries(x, sector), 1, false);
+            dueGood("entries at " + sector, tellEntries(x, 1, sector), 1, false);
         }
     }
 
@@ -200,21 +200,23 @@ public final class BootTableTest {
     private static void numbersCutToTheirLowHalf() {
         for (long sector : new long[] {1L << 32 | 2, 1L << 31 | 2, 1L << 62 | 2, Long.MIN_VALUE | 2, -1, -2, Long.MIN_VALUE,
             Long.MAX_VALUE, 1L << 55 | 2, 0xFFFFFFFF00000002L, 258, 1 << 16 | 2, 1L << 23 | 2, 1L << 24 | 2}) {
-            Maker x = Check.usual();
-            x.poke(159 * 512, 0);
-            dueGood("entries at " + sector, tellEntries(x, sector), 1, false);
+            for (int header : HEADERS) {
+                Maker x = Check.usual();
+                x.poke((160 - header) * 512, 0);
+                dueGood("entries at " + sector, tellEntries(x, header, sector), header, false);
+            }
         }
     }
 
-    /** Tells the first header where entries are, with the sum of what lies where the low half of the number says. */
-    private static Maker tellEntries(Maker x, long sector) {
+    /** Tells a header where entries are, with the sum of what lies where the low half of the number says. */
+    private static Maker tellEntries(Maker x, int header, long sector) {
         CRC32 crc = new CRC32();
         for (int i = 0; i < 16384; i++) {
             crc.update(Math.max(0, x.byteAt((int) sector * 512 + i)));
         }
-        Check.pokeLow(x, 512 + 72, 8, sector);
-        Check.pokeLow(x, 512 + 88, 4, crc.getValue());
-        Check.sealHeader(x, 1);
+        Check.pokeLow(x, header * 512 + 72, 8, sector);
+        Check.pokeLow(x, header * 512 + 88, 4, crc.getValue());
+        Check.sealHeader(x, header);
         return x;
     }
 
@@ -306,11 +308,14 @@ public final class BootTableTest {
             BootTest.due("entry " + k + " alone", y, 0, 5);
             Check.due("booted(1)", y.booted(1), 42);
         }
-        Maker z = Check.usual();
-        Check.pokeBootEntry(z, 0, 41, 40);
-        Check.pokeBootEntry(z, 128, 40, 79);
-        Check.seal(z, 1);
-        BootTest.due("one behind the last entry", z, 0, 4);
+        for (int k : new int[] {-1, 128}) {
+            Maker z = Check.usual();
+            Check.pokeBootEntry(z, 0, 41, 40);
+            Check.pokeBootEntry(z, k, 40, 79);
+            Check.seal(z, 1);
+            BootTest.due("one before the first entry or behind the last: " + k, z, 0, 4);
+            Check.due("booted(0)", z.booted(0), 1);
+        }
         Maker second = new Maker(200);
         second.partition(0, 8);
         second.partition(0, 20);

@@ -4,6 +4,7 @@ public final class MemoryTest {
         noSuchAddress();
         zeroBeforeAnyBoot();
         kernelInMemory();
+        othersAreZero();
         atBothEnds();
         fillsTheMemory();
         zeroWhenItFailed();
@@ -55,6 +56,24 @@ public final class MemoryTest {
             Check.due("boot(" + mode + ")", x.boot(mode), 0);
             dueKernel(x, 4096);
         }
+    }
+
+    /** "(others are 0)": those round the kernel too, though on the disk something lies there */
+    private static void othersAreZero() {
+        Maker x = new Maker(100);
+        x.partition(0, 20);
+        x.file('A', 512, 1, false);
+        x.file(Check.KERNEL, 600, 2, false);
+        x.file('B', 512, 3, false);
+        x.address(1000);
+        x.write();
+        x.poke(Check.cluster(3) - 1, 77);
+        x.poke(Check.cluster(3) + 600, 88);
+        Check.due("boot(0)", x.boot(0), 0);
+        Check.due("memory(999)", x.memory(999), 0);
+        Check.due("memory(1000)", x.memory(1000), 'K');
+        Check.due("memory(1599)", x.memory(1599), (2 + 7 * 599 + 2) % 256);
+        Check.due("memory(1600)", x.memory(1600), 0);
     }
 
     /** From address 0 on, and up to the last byte of the memory; "0 .. 255": bytes of 128 and more are not below 0 */
